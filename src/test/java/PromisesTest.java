@@ -186,6 +186,8 @@ public final class PromisesTest {
         refused(x, ":", 0, 1);
         refused(x, "hubs 5;", 0, 2);
         refused(x, " hu 5;", 1, 2);
+        refused(x, "nub 5;", 0, 2);
+        refused(x, "z", 0, 2);
         refused(x, ";", 0, 2);
         refused(x, "hub 5;;", 6, 2);
         refused(x, "7;", 0, 2);
@@ -395,6 +397,8 @@ public final class PromisesTest {
         Due.is("within(999999, back)", x.within(999999, true), 0);
         x.go(100);
         Due.is("LEFT has 6 TURNS (90) to 111", x.within(6, true), 89);
+        Due.is("all, on", x.within(999999, false), 200);
+        Due.is("all, back", x.within(999999, true), 0);
         Due.is("within(5, back)", x.within(5, true), 100);
         Due.is("within(6, on)", x.within(6, false), 111);
         TwoReels played = Due.told("ramp 40;play 1;");
@@ -535,6 +539,9 @@ public final class PromisesTest {
         TwoReels end = Due.told("length 20;gap 9;mark;mark;");
         Due.is("beyond length", end.mark(2), FULL);
         Due.is("count(0)", end.count(0), 2);
+        TwoReels last = Due.told("length 20;gap 19;dense 1;");
+        Due.is("just to the end", last.mark(0), Math.min(193, last.ticks(0, 19, 1)) + 10);
+        Due.is("now(5)", last.now(5), 0);
     }
 
     private static void promise19() {
@@ -600,6 +607,11 @@ public final class PromisesTest {
         Due.is("three, another one DEAD", x.check(0), 3);
         x.dead(1);
         Due.is("three in the DEAD track", x.check(0), 2);
+        TwoReels y = Due.told("block 1 2 3;");
+        y.spoil(0, 0, 4);
+        y.spoil(0, 1, 5);
+        y.spoil(0, 3, 5);
+        Due.is("two ALONG, one ACROSS", y.check(0), 3);
         Due.is("a MARK", x.check(1), 0);
         Due.is("check(4)", x.check(4), BAD);
         Due.is("check(-1)", x.check(-1), BAD);
@@ -644,6 +656,10 @@ public final class PromisesTest {
         Due.is("column(0, -1)", x.column(0, -1), BAD);
         Due.is("column(4, 0)", x.column(4, 0), BAD);
         Due.is("a MARK has no COLUMNS", x.column(1, 0), BAD);
+        TwoReels y = Due.told("block 1 2 3 4 5 6 7 8 9 10 11 12;block 1;");
+        Due.is("the 12th BYTE", y.column(0, 11), 256 + 12);
+        Due.is("THE ROW behind it", y.column(0, 12), 12);
+        Due.is("of the next BLOCK", y.column(1, 0), 1);
     }
 
     private static void promise24() {
@@ -671,6 +687,11 @@ public final class PromisesTest {
         row.dead(8);
         Due.is("bit 8 is of no BYTE", row.state(1), 0);
         Due.is("mended by the track", row.state(2), 1);
+        TwoReels fooled = Due.told("block 5;");
+        for (int c = 0; c < 4; c++) fooled.spoil(0, c / 2, c % 2);
+        Due.is("the first BYTE of the first BLOCK", fooled.state(1), 1);
+        fooled.spoil(0, 1, 2);
+        Due.is("MENDED and FOOLED", fooled.state(1) + fooled.state(2), 2);
         Due.is("state(-1)", x.state(-1), BAD);
         Due.is("state(3)", x.state(3), BAD);
     }
@@ -694,6 +715,12 @@ public final class PromisesTest {
         TwoReels high = Due.told("block 1 2 3;");
         high.spoil(0, 1, 8);
         Due.is("the highest", high.best(0), 8);
+        for (int track = 0; track < 9; track++) {
+            TwoReels one = Due.told("block 1 2 3;");
+            one.spoil(0, 1, track);
+            Due.is("a bit of one track", one.best(0), track);
+            Due.is("none is LOST", one.best(1), 0);
+        }
         Due.is("no BLOCKS", new TwoReels().best(0), 0);
         Due.is("best(-1)", x.best(-1), BAD);
         Due.is("best(2)", x.best(2), BAD);
@@ -738,6 +765,9 @@ public final class PromisesTest {
         Due.is("reads(0)", x.reads(0), 0);
         Due.is("THE HEAD stays", x.now(0), 6);
         Due.is("reads(16)", x.reads(16), BAD);
+        TwoReels on = Due.told(FOUR);
+        Due.holds("reads(12)", on.reads(12) > 0);
+        Due.is("at the end of BLOCK 3", on.now(0), 22);
         Due.is("reads(-1)", x.reads(-1), BAD);
         Due.is("reads(1)", x.reads(1), Math.min(x.ticks(6, 4, 2), 23) + 20);
         TwoReels twelve = Due.told("mark;".repeat(12));
@@ -778,6 +808,17 @@ public final class PromisesTest {
         Due.is("those behind", x.block(1, 2), 2);
         Due.is("FOOLED none", x.state(1), 0);
         headOfCut();
+        bytesBehindCut();
+    }
+
+    private static void bytesBehindCut() {
+        TwoReels x = Due.told("mark;block 1 2 3;block 14 15 16 17 18 19 20 21 22 23 24 25;block 7;");
+        x.cut(0, 10);
+        Due.is("count(0)", x.count(0), 3);
+        for (int i = 0; i < 12; i++) Due.is("got(1, " + i + ")", x.got(1, i), 14 + i);
+        for (int i = 0; i < 3; i++) Due.is("got(0, " + i + ")", x.got(0, i), 1 + i);
+        Due.is("RIGHT", x.state(0) + x.state(2), 0);
+        Due.is("FOOLED none", x.state(1), 0);
     }
 
     private static void headOfCut() {
@@ -819,6 +860,16 @@ public final class PromisesTest {
         Due.is("no room: the least", y.most(0), 1);
         Due.is("no BYTES", y.most(1), 0);
         Due.is("at first", new TwoReels().most(0), 97);
+        TwoReels last = Due.told("length 25;gap 0;dense 4;");
+        Due.is("one of 99", last.most(0), 99);
+        Due.is("BYTES", last.most(1), 99);
+        Due.is("no more than 99", Due.told("length 111;gap 99;dense 9;").most(1), 99);
+        TwoReels first = Due.told("length 20;gap 18;dense 1;");
+        Due.is("but one of 1", first.most(0), 1);
+        Due.is("BYTES", first.most(1), 1);
+        TwoReels second = Due.told("length 20;gap 17;dense 1;");
+        Due.is("but one of 2", second.most(0), 2);
+        Due.is("BYTES", second.most(1), 2);
         Due.is("most(-1)", x.most(-1), BAD);
         Due.is("most(2)", x.most(2), BAD);
     }
@@ -856,6 +907,11 @@ public final class PromisesTest {
         Due.is("these", y.buffer(4, 1, 20, 1), 80);
         Due.is("with 2 it STOPS", y.stream(4, 1, 20, 2, 1), 1);
         Due.is("one BLOCK", y.buffer(1, 1, 5, 0), 1);
+        Due.is("as many as there are", y.buffer(2, 1, 20, 0), 2);
+        Due.is("two", y.buffer(3, 1, 15, 0), 2);
+        Due.is("TICKS with two", y.buffer(3, 1, 15, 1), 45);
+        Due.is("one", Due.told("gap 0;hitch 0;").buffer(5, 1, 10, 0), 1);
+        Due.is("TICKS with one", Due.told("gap 0;hitch 0;").buffer(5, 1, 10, 1), 50);
         int[][] bad = {{0, 1, 0, 0}, {100, 1, 0, 0}, {1, 0, 0, 0}, {1, 100, 0, 0}, {1, 1, -1, 0}, {1, 1, 10000, 0},
             {1, 1, 0, -1}, {1, 1, 0, 2}};
         for (int[] b : bad) Due.is("a number beyond", x.buffer(b[0], b[1], b[2], b[3]), BAD);
@@ -984,6 +1040,10 @@ public final class PromisesTest {
         x.write(0);
         Due.is("as it was", x.got(0, 0), 9);
         Due.is("CELLS are 0", x.got(0, 1), 0);
+        x.sheet(0, 2, 1);
+        x.lay(0, 0, 300);
+        x.sheet(0, 2, 1);
+        Due.is("the first CELL, too", x.read(0, 2, 0, 1), 1);
     }
 
     private static void promise39() {
@@ -998,6 +1058,13 @@ public final class PromisesTest {
         Due.is("INDEX above", x.lay(0, 3, 0), -12);
         Due.is("INDEX far", x.lay(0, MAX, 0), -12);
         Due.is("the last one", x.lay(0, 2, 0), 1);
+        for (int k = 0; k < 4; k++) {
+            x.sheet(k, 2, 1);
+            x.lay(k, 0, 50 + k);
+        }
+        for (int k = 0; k < 4; k++) x.read(k, 2, 0, 1);
+        x.write(0);
+        for (int k = 0; k < 4; k++) Due.is("of SHEET " + k, x.got(0, k), 50 + k);
         Due.is("no CELLS", x.sheet(1, 0, 0) * x.lay(1, 0, 0), -12);
         lowestBits(0, 256 + 65, 65);
         lowestBits(0, 128, -21);
