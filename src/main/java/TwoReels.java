@@ -6,8 +6,8 @@ public final class TwoReels {
     private static final int TRACKS = 9, ORDER_MOST = 8, LENGTH_LEAST = 20;
     private static final int SHEETS = 4, LANES = 3, CELLS_MOST = 40, IMAGES = 2;
 
-    private static final int LENGTH = 0, HUB = 1, THICK = 2, PLAY = 3, WIND = 4, RAMP = 5, GAP = 6, DENSE = 7, HITCH = 8;
-    private static final int RULES = 9;
+    private static final int LENGTH = 0, HUB = 1, THICK = 2, PLAY = 3, WIND = 4, RAMP = 5, GAP = 6, DENSE = 7;
+    private static final int HITCH = 8, RULES = 9;
     private static final int[] RULE_LEAST = {20, 5, 1, 1, 1, 0, 0, 1, 0};
     private static final int[] RULE_MOST = {9999, 99, 9, 99, 99, 99, 99, 9, 999};
     private static final int[] RULE_FIRST = {1000, 20, 2, 10, 5, 3, 6, 2, 20};
@@ -16,10 +16,8 @@ public final class TwoReels {
 
     private static final int NO_FAULT = 0, FAULT_NULL = 1, FAULT_INDEX = 2, FAULT_CAST = 3, FAULT_SIZE = 4;
 
-    private final byte[] letters = new byte[LETTERS_MOST];
     private final Tape tape = new Tape();
-    private final Tape draft = new Tape();
-    private final TextReader textReader = new TextReader(letters, draft);
+    private final TextReader textReader = new TextReader();
     private final Route route = new Route();
     private final Tape imageZero = new Tape();
     private final Tape imageOne = new Tape();
@@ -27,7 +25,6 @@ public final class TwoReels {
     private final Sheet sheetOne = new Sheet();
     private final Sheet sheetTwo = new Sheet();
     private final Sheet sheetThree = new Sheet();
-    private int letterCount = 0;
     private int textFault = NO_FAULT;
     private int readFault = NO_FAULT;
     private int imagesKept = 0;
@@ -38,27 +35,24 @@ public final class TwoReels {
     // ---- the text
 
     public int feed(long v) {
-        if (letterCount + 8 > LETTERS_MOST) return FULL;
-        for (int shift = 56; shift >= 0; shift -= 8) {
-            if (letterCount >= 0 && letterCount < letters.length) letters[letterCount] = (byte) (v >>> shift);
-            letterCount++;
-        }
-        return letterCount;
+        if (textReader.letterCount + 8 > LETTERS_MOST) return FULL;
+        for (int shift = 56; shift >= 0; shift -= 8) textReader.addLetter((byte) (v >>> shift));
+        return textReader.letterCount;
     }
 
     public int end(int n) {
-        if (n < 0 || n > letterCount) return BAD;
-        int before = letterCount;
-        letterCount = n;
+        int before = textReader.letterCount;
+        if (!isBetween(n, 0, before)) return BAD;
+        textReader.letterCount = n;
         return before;
     }
 
     public int text() {
-        int lines = textReader.takeAll(letterCount);
-        letterCount = 0;
+        int lines = textReader.takeAll();
+        textReader.letterCount = 0;
         textFault = textReader.faultCode;
         if (textFault != NO_FAULT) return -10 - textReader.faultPlace;
-        tape.becomes(draft);
+        tape.becomes(textReader.draft);
         imagesKept = 0;
         return lines;
     }
@@ -367,7 +361,7 @@ public final class TwoReels {
             case 2: return tape.byteCount();
             case 3: return tape.seenCount;
             case 4: return Integer.bitCount(imagesKept);
-            case 5: return letterCount;
+            case 5: return textReader.letterCount;
             case 6: return sheetZero.isNothing() ? NONE : sheetZero.cellCount;
             default: return BAD;
         }
@@ -444,7 +438,7 @@ public final class TwoReels {
             reset();
         }
 
-        private void reset() {
+        void reset() {
             copyRow(RULE_FIRST, rules);
             blockCount = 0;
             head = 0;
@@ -526,7 +520,7 @@ public final class TwoReels {
 
         // -- TICKS
 
-        private int playedThrough(int places) {
+        int playedThrough(int places) {
             return ruled(PLAY) * places;
         }
 
@@ -536,7 +530,8 @@ public final class TwoReels {
 
         int wound(int x, int y) {
             if (x == y) return 0;
-            int more = y > x ? rightTurns(y) - rightTurns(x) : leftTurns(y) - leftTurns(x);
+            int length = ruled(LENGTH);
+            int more = y > x ? turnsOf(y) - turnsOf(x) : turnsOf(length - y) - turnsOf(length - x);
             return 2 * ruled(RAMP) + ruled(WIND) * more;
         }
 
@@ -595,7 +590,7 @@ public final class TwoReels {
 
         /** Behind BLOCK b; ahead of all BLOCKS (b -1) the start of the tape. */
         int endOf(int b) {
-            return hasBlock(b) ? beginOf(b) + longOf(b) : 0;
+            return hasBlock(b) ? beginOf(b) + longWith(sizeOf(b)) : 0;
         }
 
         int blockWith(int x) {
@@ -643,7 +638,7 @@ public final class TwoReels {
         }
 
         /** What is typed becomes BLOCK k, the last one; of size 0 a MARK. */
-        private void putBlock(int k, int begin, int size) {
+        void putBlock(int k, int begin, int size) {
             blockCount = k + 1;
             setCell(begins, k, begin);
             setCell(sizes, k, size);
@@ -659,7 +654,7 @@ public final class TwoReels {
         }
 
         /** A text can tell its RULES behind its BLOCKS: where these begin is known at its end alone. */
-        private void layOutBlocks() {
+        void layOutBlocks() {
             for (int b = 0; b < blockCount; b++) setCell(begins, b, beginningAt(b));
         }
 
@@ -726,9 +721,9 @@ public final class TwoReels {
 
         /** The tracks that are wrong ACROSS, as bits. */
         private int wrongAcross(int b) {
-            if (isMark(b)) return 0;
+            int size = sizeOf(b);
             int wrong = 0;
-            for (int i = 0; i <= sizeOf(b); i++) wrong ^= columnOf(b, i);
+            for (int i = 0; size > 0 && i <= size; i++) wrong ^= columnOf(b, i);
             return wrong;
         }
 
@@ -750,12 +745,11 @@ public final class TwoReels {
             return as & 255;
         }
 
-        private boolean isFooled(int b) {
-            if (readingOf(b, deadTrack) == LOST) return false;
+        private boolean isReadAsWritten(int b) {
             for (int i = 0; i < sizeOf(b); i++) {
-                if (byteAsRead(b, i) != originalOf(b, i)) return true;
+                if (byteAsRead(b, i) != originalOf(b, i)) return false;
             }
-            return false;
+            return true;
         }
 
         /** The BLOCKS that are LOST with a track DEAD (NONE: with none). */
@@ -770,7 +764,7 @@ public final class TwoReels {
         int fooledBlocks() {
             int bits = 0;
             for (int b = 0; b < blockCount; b++) {
-                if (isFooled(b)) bits |= 1 << b;
+                if (readingOf(b, deadTrack) != LOST && !isReadAsWritten(b)) bits |= 1 << b;
             }
             return bits;
         }
@@ -946,14 +940,14 @@ public final class TwoReels {
         }
     }
 
-    /** Reads THE LETTERS token by token into a draft, so that a text with a FAULT leaves the tape alone. */
+    /** THE LETTERS, read token by token into a draft, so that a text with a FAULT leaves the tape alone. */
     private static final class TextReader {
         private static final int END = 0, NAME = 1, NUMBER = 2, SIGN = 3, BROKEN = 4;
         private static final int BLANK = 32, FIGURES_MOST = 4;
 
-        private final byte[] source;
-        private final Tape draft;
-        private int size;
+        private final byte[] letters = new byte[LETTERS_MOST];
+        final Tape draft = new Tape();
+        int letterCount;
         private int next;
         private int kind;
         private int start;
@@ -962,15 +956,14 @@ public final class TwoReels {
         int faultCode;
         int faultPlace;
 
-        TextReader(byte[] source, Tape draft) {
-            this.source = source;
-            this.draft = draft;
+        void addLetter(byte letter) {
+            if (letterCount >= 0 && letterCount < letters.length) letters[letterCount] = letter;
+            letterCount++;
         }
 
-        /** How many lines the first letters tell; it counts only if there is no FAULT. */
-        int takeAll(int letterCount) {
+        /** How many lines THE LETTERS tell; it counts only if there is no FAULT. */
+        int takeAll() {
             draft.reset();
-            size = letterCount;
             next = 0;
             toldRules = 0;
             faultCode = NO_FAULT;
@@ -983,7 +976,7 @@ public final class TwoReels {
             }
             draft.layOutBlocks();
             draft.typedCount = 0;
-            if (draft.endOf(draft.blockCount - 1) > draft.ruled(LENGTH)) refuse(6, size);
+            if (draft.endOf(draft.blockCount - 1) > draft.ruled(LENGTH)) refuse(6, letterCount);
             return lines;
         }
 
@@ -998,7 +991,7 @@ public final class TwoReels {
 
         /** Behind the end: -1. */
         private int letterAt(int i) {
-            return i >= 0 && i < size && source != null && i < source.length ? source[i] & 255 : -1;
+            return i >= 0 && i < letterCount && i < letters.length ? letters[i] & 255 : -1;
         }
 
         private static boolean isSmallLetter(int c) {
@@ -1010,14 +1003,14 @@ public final class TwoReels {
         }
 
         private void readToken() {
-            while (next < size && letterAt(next) == BLANK) next++;
+            while (next < letterCount && letterAt(next) == BLANK) next++;
             start = next;
             int c = letterAt(start);
             if (c < 0) {
                 kind = END;
             } else if (isSmallLetter(c)) {
                 kind = NAME;
-                while (next < size && isSmallLetter(letterAt(next))) next++;
+                while (next < letterCount && isSmallLetter(letterAt(next))) next++;
             } else if (isFigure(c)) {
                 readNumber();
             } else {
@@ -1028,7 +1021,7 @@ public final class TwoReels {
         }
 
         private void readNumber() {
-            while (next < size && isFigure(letterAt(next))) next++;
+            while (next < letterCount && isFigure(letterAt(next))) next++;
             kind = next - start > FIGURES_MOST ? BROKEN : NUMBER;
             value = 0;
             if (kind == BROKEN) return;
@@ -1064,6 +1057,7 @@ public final class TwoReels {
             else if (isNamed("block")) takeBlock();
             else if (isNamed("mark")) takeMark();
             else refuse(2, start);
+            if (faultCode == NO_FAULT) takeSign();
         }
 
         private void takeRule(int r) {
@@ -1076,7 +1070,6 @@ public final class TwoReels {
             if (!isNumberWithin(cell(RULE_LEAST, r), cell(RULE_MOST, r))) return;
             setCell(draft.rules, r, value);
             readToken();
-            takeSign();
         }
 
         private void takeBlock() {
@@ -1090,14 +1083,12 @@ public final class TwoReels {
                 readToken();
             }
             draft.putBlock(draft.blockCount, 0, draft.typedCount);
-            takeSign();
         }
 
         private void takeMark() {
             if (!hasRoomForBlock()) return;
             draft.putBlock(draft.blockCount, 0, 0);
             readToken();
-            takeSign();
         }
 
         private boolean hasRoomForBlock() {

@@ -6,7 +6,8 @@ public final class ModelTest {
     private static final int RUNS = 160;
     private static final int CALLS = 512;
     private static final int[] WILD = {Integer.MIN_VALUE, -1000000, -5, -4, -3, -2, -1, 0, 1, 2, 3, 7, 8, 9, 10, 12,
-        13, 17, 18, 39, 40, 41, 99, 100, 255, 256, 400, 999, 1000, 9999, 10000, 999999, 1000000, 65536, Integer.MAX_VALUE};
+        13, 17, 18, 39, 40, 41, 99, 100, 255, 256, 400, 999, 1000, 9999, 10000, 999999, 1000000, 65536,
+        Integer.MAX_VALUE};
     private static final String[] NAMES = {"length", "hub", "thick", "play", "wind", "ramp", "gap", "dense", "hitch"};
     private static final int[] LOW = {20, 5, 1, 1, 1, 0, 0, 1, 0};
     private static final int[] HIGH = {9999, 99, 9, 99, 99, 99, 99, 9, 999};
@@ -129,7 +130,11 @@ public final class ModelTest {
         switch (kind) {
             case 0: same("rule", x.rule(w = some(0, 8)), m.rule(w)); break;
             case 1: same("turns(" + a + ")", x.turns(a, yes), m.turns(a, yes)); break;
-            case 2: same("shows(" + (b = some(0, 60)) + ", " + (w = some(0, 1)) + ")", x.shows(b, w), m.shows(b, w)); break;
+            case 2:
+                b = some(0, 60);
+                w = some(0, 1);
+                same("shows(" + b + ", " + w + ")", x.shows(b, w), m.shows(b, w));
+                break;
             case 3: same("meet", x.meet(), m.meet()); break;
             case 4:
             case 5: same("ticks(" + a + ", " + b + ", " + w + ")", x.ticks(a, b, w), m.ticks(a, b, w)); break;

@@ -110,7 +110,7 @@ final class PlainModel {
     }
 
     private static final class Parse {
-        private static final Pattern TOKEN = Pattern.compile(" *([a-z]+|[0-9]+|;|$)");
+        private static final Pattern TOKEN = Pattern.compile(" *([a-z]+|[0-9]+|;|\\z)");
         final String source;
         final All told = new All();
         final Matcher matcher;
