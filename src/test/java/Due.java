@@ -2,6 +2,11 @@ import java.nio.charset.StandardCharsets;
 
 /** What the tests share: they count wrong answers here, and tell a text to an object as a caller would. */
 final class Due {
+    static final String[] RULES = {"length", "hub", "thick", "play", "wind", "ramp", "gap", "dense", "hitch"};
+    static final int[] RULES_LEAST = {20, 5, 1, 1, 1, 0, 0, 1, 0};
+    static final int[] RULES_MOST = {9999, 99, 9, 99, 99, 99, 99, 9, 999};
+    static final int[] RULES_FIRST = {1000, 20, 2, 10, 5, 3, 6, 2, 20};
+
     private static int wrong = 0;
     private static int asked = 0;
     private static String topic = "";
@@ -51,6 +56,17 @@ final class Due {
         int answer = tell(x, text);
         holds("text \"" + text + "\" is taken (" + answer + ")", answer >= 0);
         return x;
+    }
+
+    /** A text that is refused: the place of its FAULT, and which one it is. */
+    static void refuses(TwoReels x, String text, int place, int fault) {
+        is("text \"" + text + "\"", tell(x, text), -10 - place);
+        is("FAULT of \"" + text + "\"", x.fault(), fault);
+        is("LETTERS behind it", x.count(5), 0);
+    }
+
+    static void refuses(String text, int place, int fault) {
+        refuses(new TwoReels(), text, place, fault);
     }
 
     static long[] eights(String text) {

@@ -5,25 +5,28 @@
 public final class ModelTest {
     private static final int RUNS = 160;
     private static final int CALLS = 512;
+    private static final int TEXT_CALLS = 60;
     private static final int[] WILD = {Integer.MIN_VALUE, -1000000, -5, -4, -3, -2, -1, 0, 1, 2, 3, 7, 8, 9, 10, 12,
         13, 17, 18, 39, 40, 41, 99, 100, 255, 256, 400, 999, 1000, 9999, 10000, 999999, 1000000, 65536,
         Integer.MAX_VALUE};
-    private static final String[] NAMES = {"length", "hub", "thick", "play", "wind", "ramp", "gap", "dense", "hitch"};
-    private static final int[] LOW = {20, 5, 1, 1, 1, 0, 0, 1, 0};
-    private static final int[] HIGH = {9999, 99, 9, 99, 99, 99, 99, 9, 999};
+    private static final String[] NAMES = Due.RULES;
+    private static final int[] LOW = Due.RULES_LEAST;
+    private static final int[] HIGH = Due.RULES_MOST;
 
     private static long seed = 20261119L;
     private static TwoReels x;
     private static PlainModel m;
+    private static int calls;
 
     public static void main(String[] args) {
         for (int run = 0; run < RUNS; run++) {
             x = new TwoReels();
             m = new PlainModel();
             Due.topic("model run " + run);
-            int calls = 0;
-            while (calls < CALLS && Due.wrongSoFar() == 0) {
-                calls += calls == 0 || pick(150) == 0 ? tellText(run % 4 == 0) : oneCall();
+            calls = 0;
+            while (calls < CALLS - TEXT_CALLS && Due.wrongSoFar() == 0) {
+                if (calls == 0 || pick(150) == 0) tellText(run % 4 == 0);
+                else oneCall();
             }
         }
         Due.close();
@@ -57,19 +60,18 @@ public final class ModelTest {
     }
 
     private static void same(String call, int got, int want) {
+        calls++;
         Due.is(call, got, want);
     }
 
-    private static int tellText(boolean isShort) {
+    private static void tellText(boolean isShort) {
         String text = isShort ? loose() : lines();
-        x.end(0);
-        m.end(0);
+        same("end(0)", x.end(0), m.end(0));
         for (long v : Due.eights(text)) same("feed(" + v + ")", x.feed(v), m.feed(v));
         int size = Math.min(text.length(), 400);
         same("end(" + size + ")", x.end(size), m.end(size));
         same("text() of [" + text + "]", x.text(), m.text());
         same("fault() of [" + text + "]", x.fault(), m.fault());
-        return 4 + size / 8;
     }
 
     private static String blanks() {
@@ -112,14 +114,13 @@ public final class ModelTest {
         return s.toString();
     }
 
-    private static int oneCall() {
+    private static void oneCall() {
         int kind = pick(46);
         if (kind < 10) reelCall(kind);
         else if (kind < 20) blockCall(kind);
         else if (kind < 30) readCall(kind);
         else if (kind < 37) tapeCall(kind);
         else sheetCall(kind);
-        return 1;
     }
 
     private static void reelCall(int kind) {

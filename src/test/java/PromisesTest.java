@@ -2,11 +2,7 @@
 public final class PromisesTest {
     private static final int BAD = TwoReels.BAD, STATE = TwoReels.STATE, FULL = TwoReels.FULL, NONE = TwoReels.NONE;
     private static final int MIN = Integer.MIN_VALUE, MAX = Integer.MAX_VALUE;
-
-    // hub 10, thick 2: so many TURNS have 0, 10, 22, 36, 52, 70, 90, 112, 136, 162, 190 PLACES.
-    private static final String SMALL = "length 200;hub 10;thick 2;gap 4;";
-    // BLOCKS 0 (PLACES 4, 5), 1 (a MARK, 10), 2 (15), 3 (20, 21).
-    private static final String FOUR = SMALL + "block 65 66 67;mark;block 1;block 255 0;";
+    private static final String SMALL = States.SMALL, FOUR = States.FOUR;
 
     public static void main(String[] args) {
         promise01();
@@ -57,8 +53,7 @@ public final class PromisesTest {
     private static void promise01() {
         Due.topic("1 a new object");
         TwoReels x = new TwoReels();
-        int[] first = {1000, 20, 2, 10, 5, 3, 6, 2, 20};
-        for (int r = 0; r < 9; r++) Due.is("rule(" + r + ")", x.rule(r), first[r]);
+        for (int r = 0; r < 9; r++) Due.is("rule(" + r + ")", x.rule(r), Due.RULES_FIRST[r]);
         int[] now = {0, 0, 0, NONE, 0, 1000};
         for (int w = 0; w < 6; w++) Due.is("now(" + w + ")", x.now(w), now[w]);
         int[] count = {0, 0, 0, 0, 0, 0, NONE};
@@ -173,96 +168,90 @@ public final class PromisesTest {
     private static void promise05() {
         Due.topic("5 fault");
         TwoReels x = new TwoReels();
-        refused(x, "HUB 5;", 0, 1);
-        refused(x, "hub 5.;", 5, 1);
-        refused(x, "hub 5;\t", 6, 1);
-        refused(x, "hub -5;", 4, 1);
-        refused(x, "hub  00005;", 5, 1);
-        refused(x, "block 1 22222;", 8, 1);
-        refused(x, "12345", 0, 1);
-        refused(x, "`", 0, 1);
-        refused(x, "{", 0, 1);
-        refused(x, "/", 0, 1);
-        refused(x, ":", 0, 1);
-        refused(x, "hubs 5;", 0, 2);
-        refused(x, " hu 5;", 1, 2);
-        refused(x, "nub 5;", 0, 2);
-        refused(x, "z", 0, 2);
-        refused(x, ";", 0, 2);
-        refused(x, "hub 5;;", 6, 2);
-        refused(x, "7;", 0, 2);
-        refused(x, "hub hub 5;", 4, 2);
-        refused(x, "hub;", 3, 2);
-        refused(x, "hub", 3, 2);
-        refused(x, "hub   ", 6, 2);
-        refused(x, "hub 5", 5, 2);
-        refused(x, "hub 5  ", 7, 2);
-        refused(x, "hub 5 mark;", 6, 2);
-        refused(x, "hub 5 5;", 6, 2);
-        refused(x, "block;", 5, 2);
-        refused(x, "block a;", 6, 2);
-        refused(x, "block 1", 7, 2);
-        refused(x, "mark 1;", 5, 2);
-        refused(x, "mark", 4, 2);
-        bounds(x);
-        twiceAndTooMany(x);
-        firstMet(x);
+        Due.refuses(x, "HUB 5;", 0, 1);
+        Due.refuses(x, "hub 5.;", 5, 1);
+        Due.refuses(x, "hub 5;\t", 6, 1);
+        Due.refuses(x, "hub -5;", 4, 1);
+        Due.refuses(x, "hub  00005;", 5, 1);
+        Due.refuses(x, "block 1 22222;", 8, 1);
+        Due.refuses(x, "12345", 0, 1);
+        Due.refuses(x, "`", 0, 1);
+        Due.refuses(x, "{", 0, 1);
+        Due.refuses(x, "/", 0, 1);
+        Due.refuses(x, ":", 0, 1);
+        Due.refuses(x, "hubs 5;", 0, 2);
+        Due.refuses(x, " hu 5;", 1, 2);
+        Due.refuses(x, "nub 5;", 0, 2);
+        Due.refuses(x, "z", 0, 2);
+        Due.refuses(x, ";", 0, 2);
+        Due.refuses(x, "hub 5;;", 6, 2);
+        Due.refuses(x, "7;", 0, 2);
+        Due.refuses(x, "hub hub 5;", 4, 2);
+        Due.refuses(x, "hub;", 3, 2);
+        Due.refuses(x, "hub", 3, 2);
+        Due.refuses(x, "hub   ", 6, 2);
+        Due.refuses(x, "hub 5", 5, 2);
+        Due.refuses(x, "hub 5  ", 7, 2);
+        Due.refuses(x, "hub 5 mark;", 6, 2);
+        Due.refuses(x, "hub 5 5;", 6, 2);
+        Due.refuses(x, "block;", 5, 2);
+        Due.refuses(x, "block a;", 6, 2);
+        Due.refuses(x, "block 1", 7, 2);
+        Due.refuses(x, "mark 1;", 5, 2);
+        Due.refuses(x, "mark", 4, 2);
+        bounds(new TwoReels());
+        twiceAndTooMany(new TwoReels());
+        firstMet(new TwoReels());
         Due.is("a text that is taken", Due.tell(x, "hub 5;"), 1);
         Due.is("fault()", x.fault(), 0);
     }
 
-    private static void refused(TwoReels x, String text, int place, int fault) {
-        Due.is("text \"" + text + "\"", Due.tell(x, text), -10 - place);
-        Due.is("its FAULT", x.fault(), fault);
-        Due.is("LETTERS behind it", x.count(5), 0);
-    }
-
     private static void bounds(TwoReels x) {
-        String[] names = {"length", "hub", "thick", "play", "wind", "ramp", "gap", "dense", "hitch"};
-        int[] low = {20, 5, 1, 1, 1, 0, 0, 1, 0};
-        int[] high = {9999, 99, 9, 99, 99, 99, 99, 9, 999};
+        String[] names = Due.RULES;
+        int[] low = Due.RULES_LEAST;
+        int[] high = Due.RULES_MOST;
         for (int r = 0; r < 9; r++) {
             int place = names[r].length() + 1;
-            if (low[r] > 0) refused(x, names[r] + " " + (low[r] - 1) + ";", place, 3);
-            refused(x, names[r] + " " + (high[r] + 1) + ";", place, r == 0 ? 1 : 3);
+            if (low[r] > 0) Due.refuses(x, names[r] + " " + (low[r] - 1) + ";", place, 3);
+            Due.refuses(x, names[r] + " " + (high[r] + 1) + ";", place, r == 0 ? 1 : 3);
             Due.is(names[r] + " least", Due.tell(x, names[r] + " " + low[r] + ";"), 1);
             Due.is("rule(" + r + ")", x.rule(r), low[r]);
             Due.is(names[r] + " most", Due.tell(x, names[r] + " " + high[r] + ";"), 1);
             Due.is("rule(" + r + ")", x.rule(r), high[r]);
-            refused(x, names[r] + " " + low[r] + ";" + names[r], (names[r] + low[r]).length() + 2, 4);
+            Due.refuses(x, names[r] + " " + low[r] + ";" + names[r], (names[r] + low[r]).length() + 2, 4);
         }
-        refused(x, "block 256;", 6, 3);
-        refused(x, "block 0 255 256;", 12, 3);
+        Due.refuses(x, "block 256;", 6, 3);
+        Due.refuses(x, "block 0 255 256;", 12, 3);
     }
 
     private static void twiceAndTooMany(TwoReels x) {
-        refused(x, "hub 5;gap 1;hub 5;", 12, 4);
+        Due.refuses(x, "hub 5;gap 1;hub 5;", 12, 4);
         String twelve = "mark;block 1;".repeat(6);
         Due.is("12 BLOCKS", Due.tell(x, twelve), 12);
         Due.is("count(0)", x.count(0), 12);
-        refused(x, twelve + "mark;", twelve.length(), 5);
-        refused(x, twelve + " block", twelve.length() + 1, 5);
+        Due.refuses(x, twelve + "mark;", twelve.length(), 5);
+        Due.refuses(x, twelve + " block", twelve.length() + 1, 5);
         Due.is("12 BYTES", Due.tell(x, "block 1 2 3 4 5 6 7 8 9 10 11 12;"), 1);
         Due.is("block(0, 2)", x.block(0, 2), 12);
-        refused(x, "block 1 2 3 4 5 6 7 8 9 10 11 12 13;", 33, 5);
+        Due.refuses(x, "block 1 2 3 4 5 6 7 8 9 10 11 12 13;", 33, 5);
         String nine = "length 20;gap 0;dense 1;block 1 2 3 4 5 6 7 8 9;";
         Due.is("just to the end", Due.tell(x, nine + "block 1 2 3 4 5 6 7 8 9;"), 5);
         Due.is("now(5)", x.now(5), 0);
         String over = nine + "block 1 2 3 4 5 6 7 8 9;mark; ";
-        refused(x, over, over.length(), 6);
-        refused(x, "mark;mark;mark;length 20;", 25, 6);
+        Due.refuses(x, over, over.length(), 6);
+        Due.refuses(x, "mark;mark;mark;length 20;", 25, 6);
     }
 
     /** A TOKEN is read when the one before has been taken. */
     private static void firstMet(TwoReels x) {
-        refused(x, "hub 200#;", 4, 3);
-        refused(x, "hub 5;hub#;", 6, 4);
-        refused(x, "hub 5#;", 5, 1);
-        refused(x, "hub #", 4, 1);
-        refused(x, "hubs#", 0, 2);
-        refused(x, "block 300 22222;", 6, 3);
-        refused(x, "mark;".repeat(12) + "mark#", 60, 5);
-        refused(x, "length 20;mark;mark;mark;#", 25, 1);
+        Due.refuses(x, "hub 200#;", 4, 3);
+        Due.refuses(x, "hub 5;hub#;", 6, 4);
+        Due.refuses(x, "hub 5#;", 5, 1);
+        Due.refuses(x, "hub #", 4, 1);
+        Due.refuses(x, "hubs#", 0, 2);
+        Due.refuses(x, "block 300 22222;", 6, 3);
+        Due.refuses(x, "mark;".repeat(12) + "mark#", 60, 5);
+        Due.refuses(x, "length 20;mark;mark;mark;#", 25, 1);
     }
 
     private static void promise06() {
