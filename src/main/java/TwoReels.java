@@ -284,8 +284,8 @@ public final class TwoReels {
     public int fits(int what) {
         if (!isBetween(what, 0, 2)) return BAD;
         int pairs = 0;
-        for (int hub = RULE_LEAST[HUB]; hub <= RULE_MOST[HUB]; hub++) {
-            for (int thick = RULE_LEAST[THICK]; thick <= RULE_MOST[THICK]; thick++) {
+        for (int hub = cell(RULE_LEAST, HUB); hub <= cell(RULE_MOST, HUB); hub++) {
+            for (int thick = cell(RULE_LEAST, THICK); thick <= cell(RULE_MOST, THICK); thick++) {
                 if (!tape.canBe(hub, thick)) continue;
                 if (what == 1) return hub;
                 if (what == 2) return thick;
@@ -664,9 +664,7 @@ public final class TwoReels {
             for (int b = 0; b < before; b++) {
                 boolean isBehind = beginOf(b) >= y;
                 if (!isBehind && endOf(b) > x) continue;
-                int begin = beginOf(b) - (isBehind ? y - x : 0);
-                moveBlock(b, kept);
-                setCell(begins, kept, begin);
+                moveBlock(b, kept, isBehind ? y - x : 0);
                 kept++;
             }
             blockCount = kept;
@@ -676,8 +674,8 @@ public final class TwoReels {
             return before - kept;
         }
 
-        private void moveBlock(int from, int to) {
-            setCell(begins, to, beginOf(from));
+        private void moveBlock(int from, int to, int nearer) {
+            setCell(begins, to, beginOf(from) - nearer);
             setCell(sizes, to, sizeOf(from));
             for (int i = 0; i < COLUMNS_MOST; i++) setColumn(to, i, columnOf(from, i));
             for (int i = 0; i < BYTES_MOST; i++) setCell(originals, to * BYTES_MOST + i, originalOf(from, i));

@@ -209,14 +209,15 @@ public final class BlockEdgesTest {
             TwoReels x = Due.told("mark;block 7 8;".repeat(6));
             for (int b = 1; b < 12; b += 2) {
                 x.spoil(b, 0, 0);
-                x.spoil(b, 1, 1);
+                if (b % 4 == 1) x.spoil(b, 1, 1);
             }
             x.type(70 + k);
             x.write(k);
             Due.is("how many there are", x.count(0), k + 1);
             Due.is("MARKS", x.count(1), (k + 1) / 2);
             Due.is("BYTES", x.count(2), k / 2 * 2 + 1);
-            Due.is("LOST are of those that are there", x.state(0), 0xaaa & (1 << k) - 1);
+            Due.is("LOST are of those that are there", x.state(0), 0x222 & (1 << k) - 1);
+            Due.is("MENDED are of those that are there", x.state(2), 0x888 & (1 << k) - 1);
             Due.is("check(" + k + ")", x.check(k), 0);
             Due.is("got(" + k + ", 0)", x.got(k, 0), 70 + k);
             Due.is("behind it", x.block(k + 1, 0), BAD);
@@ -311,7 +312,10 @@ public final class BlockEdgesTest {
         Due.is("THE HEAD is at length", x.now(0), 20);
         Due.is("beyond length", x.mark(4), FULL);
         Due.is("behind those there are", x.mark(5), BAD);
-        Due.holds("it begins ahead of length", Due.told("length 99;gap 98;").mark(0) > 0);
+        for (int dense = 1; dense <= 9; dense++) {
+            TwoReels last = Due.told("length 99;gap 98;dense " + dense + ";");
+            Due.holds("the last PLACE, dense " + dense, last.mark(0) > 0);
+        }
         Due.is("it begins at length", Due.told("length 99;gap 99;").mark(0), FULL);
         Due.is("it begins beyond length", Due.told("length 98;gap 99;").mark(0), FULL);
         TwoReels shorter = Due.told("length 21;gap 4;mark;mark;mark;mark;");
@@ -380,7 +384,7 @@ public final class BlockEdgesTest {
             was = track;
         }
         x.dead(4);
-        for (int track : new int[] {MIN, -6, -5, -3, -2, -1, 9, 10, MAX}) Due.is("dead(" + track + ")", x.dead(track), BAD);
+        for (int no : new int[] {MIN, -6, -5, -3, -2, -1, 9, 10, MAX}) Due.is("dead(" + no + ")", x.dead(no), BAD);
         Due.is("it stays", x.now(3), 4);
     }
 }

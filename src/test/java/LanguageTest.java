@@ -121,7 +121,6 @@ public final class LanguageTest {
             Due.holds("no '" + word + "'", !m.find());
         }
         methodsAreShort(code);
-        noRowsInCalls(code);
     }
 
     private static void methodsAreShort(String code) {
@@ -130,15 +129,6 @@ public final class LanguageTest {
             boolean isStart = line.matches("( {4}| {8})(public |private |static )*[\\w\\[\\]<>]+ \\w+\\(.*\\{");
             lines = isStart ? 0 : lines + 1;
             if (line.matches("( {4}| {8})\\}")) Due.holds("a method of " + lines + " lines", lines <= 60);
-        }
-    }
-
-    /** All that is made is made with the object: the calls make nothing. */
-    private static void noRowsInCalls(String code) {
-        for (String line : code.split("\n")) {
-            if (line.contains("new ")) {
-                Due.holds("made in a field: " + line.strip(), line.matches(" {4,8}(private )?final .* = new .*;"));
-            }
         }
     }
 }

@@ -238,7 +238,8 @@ public final class ModelTest {
             case 39: same("lay(" + k + ", " + i + ", " + v + ")", x.lay(k, i, v), m.lay(k, i, v)); break;
             case 40: {
                 int n = some(0, pick(2) == 0 ? 3 : 12);
-                same("read(" + k + ", " + lane + ", " + i + ", " + n + ")", x.read(k, lane, i, n), m.read(k, lane, i, n));
+                String told = "read(" + k + ", " + lane + ", " + i + ", " + n + ")";
+                same(told, x.read(k, lane, i, n), m.read(k, lane, i, n));
                 same("torn", x.torn(), m.torn());
                 break;
             }

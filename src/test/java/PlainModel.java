@@ -669,7 +669,8 @@ final class PlainModel {
         try {
             while (taken < n) {
                 Object s = sheets[k];
-                int v = lane == 0 ? ((byte[]) s)[f + taken] : lane == 1 ? ((short[]) s)[f + taken] : ((int[]) s)[f + taken];
+                int i = f + taken;
+                int v = lane == 0 ? ((byte[]) s)[i] : lane == 1 ? ((short[]) s)[i] : ((int[]) s)[i];
                 if (v < 0 || v > 255 || all.typed.size() == 12) {
                     all.typed = were;
                     return v < 0 || v > 255 ? -20 - taken : FULL;

@@ -1,3 +1,5 @@
+import java.util.Arrays;
+
 /** What is READ, and in which ORDER (promises 21 to 27): the edges that the document names, a method a sentence. */
 public final class ReadEdgesTest {
     private static final int BAD = TwoReels.BAD, STATE = TwoReels.STATE, NONE = TwoReels.NONE;
@@ -31,6 +33,7 @@ public final class ReadEdgesTest {
         orderOfBlocksThatAreNot();
         orderOfSeveralTheFirst();
         orderFromTheHead();
+        orderFromTheEndOfEach();
         readsToTheEndOfTheLast();
         Due.close();
     }
@@ -89,7 +92,7 @@ public final class ReadEdgesTest {
         for (int[][] pair : pairs) {
             TwoReels x = Due.told("block 1 2;");
             bits(x, 0, pair);
-            Due.is("COLUMN " + pair[0][0] + ", track " + pair[0][1] + "; " + pair[1][0] + ", " + pair[1][1], x.check(0), 3);
+            Due.is("COLUMN, track " + Arrays.deepToString(pair), x.check(0), 3);
             Due.is("got(0, 0)", x.got(0, 0), NONE);
         }
         TwoReels x = Due.told("block 1 2 3;");
@@ -222,7 +225,7 @@ public final class ReadEdgesTest {
         Due.is("the last of two", x.got(2, 1), 254);
         int[] sizes = {1, 12, 2};
         for (int b = 0; b < 3; b++) {
-            for (int i : new int[] {MIN, -1, sizes[b], sizes[b] + 1, MAX}) Due.is("got(" + b + ", " + i + ")", x.got(b, i), BAD);
+            for (int i : new int[] {MIN, -1, sizes[b], sizes[b] + 1, MAX}) Due.is("BYTE " + i, x.got(b, i), BAD);
         }
         for (int b : new int[] {MIN, -1, 3, MAX}) Due.is("got(" + b + ", 0)", x.got(b, 0), BAD);
         x.spoil(0, 0, 8);
@@ -370,7 +373,7 @@ public final class ReadEdgesTest {
         for (int b = 0; b < 4; b++) {
             Due.is("TICKS of BLOCK " + b, x.order(1 << b, 0), x.ticks(0, x.block(b, 0), 2) + 10 * x.block(b, 1));
             Due.is("it is the first one", x.order(1 << b, 10), b);
-            for (int what : new int[] {MIN, -1, 1, 9, 11, 17, 18, MAX}) Due.is("order, " + what, x.order(1 << b, what), BAD);
+            for (int no : new int[] {MIN, -1, 1, 9, 11, 17, 18, MAX}) Due.is("order, " + no, x.order(1 << b, no), BAD);
         }
         TwoReels twelve = Due.told("mark;".repeat(12));
         Due.is("the last BLOCK alone", twelve.order(1 << 11, 10), 11);
@@ -466,6 +469,20 @@ public final class ReadEdgesTest {
         Due.is("TICKS", x.order(5, 0), 13 + 23);
     }
 
+    /** From THE HEAD the BLOCKS that are left would be read in another ORDER than from the end of the one before. */
+    private static void orderFromTheEndOfEach() {
+        Due.topic("order: from the end of the one before");
+        TwoReels x = Due.told("length 60;ramp 1;play 1;wind 99;hub 5;thick 1;gap 0;dense 1;"
+            + "block 1 2 3 4 5 6 7 8 9;block 1 2 3;mark;");
+        x.go(18);
+        for (int i = 0; i < 3; i++) Due.is("no gap, the " + i + "th", x.order(7, 10 + i), i);
+        Due.is("TICKS: to BLOCK 0, then they follow", x.order(7, 0), 19 + 10 + 4 + 1);
+        TwoReels y = Due.told("length 60;ramp 1;play 1;wind 99;hub 5;thick 1;gap 3;dense 1;mark;block 1 2 3;mark;");
+        y.go(18);
+        for (int i = 0; i < 3; i++) Due.is("gap 3, the " + i + "th", y.order(7, 10 + i), 2 - i);
+        Due.is("TICKS: to BLOCK 1 it is WOUND", y.order(7, 0), 6 + 6 + 10);
+    }
+
     private static void readsToTheEndOfTheLast() {
         Due.topic("reads: to the end of the last one");
         TwoReels x = dearTurns();
@@ -475,8 +492,13 @@ public final class ReadEdgesTest {
         Due.is("back again", x.reads(7), 29);
         Due.is("THE HEAD is behind BLOCK 0", x.now(0), 10);
         Due.is("TICKS so far", x.now(1), 62);
-        Due.is("none", x.reads(0), 0);
-        Due.is("THE HEAD stays", x.now(0), 10);
+        for (int place : new int[] {40, 0, 25, 10}) {
+            x.go(place);
+            int before = x.now(1);
+            Due.is("none", x.reads(0), 0);
+            Due.is("THE HEAD stays", x.now(0), place);
+            Due.is("TICKS stay", x.now(1), before);
+        }
         Due.is("BLOCK 0 anew", x.reads(1), 3);
         TwoReels last = Due.told("length 20;gap 19;mark;");
         last.reads(1);

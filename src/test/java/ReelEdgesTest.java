@@ -4,7 +4,7 @@ public final class ReelEdgesTest {
     private static final int MIN = Integer.MIN_VALUE, MAX = Integer.MAX_VALUE;
     // length, hub, thick: the least and the greatest of each.
     private static final int[][] REELS = {{9999, 5, 1}, {9999, 5, 9}, {9999, 99, 1}, {9999, 99, 9}, {20, 5, 1},
-        {20, 99, 9}, {20, 5, 9}, {200, 10, 2}, {190, 10, 2}, {189, 10, 2}, {191, 10, 2}, {1000, 20, 2}};
+        {20, 99, 9}, {20, 5, 9}, {200, 10, 2}, {190, 10, 2}, {189, 10, 2}, {191, 10, 2}, {1000, 20, 2}, {1000, 21, 2}};
 
     public static void main(String[] args) {
         turnsAreTheMostThatItHasWhole();
@@ -21,6 +21,7 @@ public final class ReelEdgesTest {
         goesToEachEnd();
         nowAtBothEnds();
         ticksSoFar();
+        ticksOfAsManyCallsAsThereAre();
         withinNoTicks();
         withinOn();
         withinBack();
@@ -107,7 +108,8 @@ public final class ReelEdgesTest {
         Due.topic("shows: nowhere, and no counter");
         for (int[] reel : REELS) {
             TwoReels x = reeled(reel, "");
-            for (int c : new int[] {137, 9999, 10000, 32768, 46340, 46341, 65535, 65536, 92682, 131072, 1 << 30, MAX - 1, MAX}) {
+            // Reckoned in an int, what so many TURNS hold could come out small again.
+            for (int c : new int[] {137, 9999, 10000, 32768, 46340, 46341, 65536, 92682, 1 << 30, MAX - 1, MAX}) {
                 Due.is("shows(" + c + ", 0)", x.shows(c, 0), NONE);
                 Due.is("shows(" + c + ", 1)", x.shows(c, 1), NONE);
             }
@@ -249,6 +251,19 @@ public final class ReelEdgesTest {
         x.mark(9);
         x.reads(64);
         Due.is("of no other call, nor of a refused one", x.now(1), sum);
+    }
+
+    private static void ticksOfAsManyCallsAsThereAre() {
+        Due.topic("now: TICKS of 512 calls");
+        TwoReels x = Due.told("length 9999;hub 5;thick 1;ramp 99;play 99;wind 99;");
+        int calls = 10;
+        int sum = 0;
+        while (calls < 511) {
+            sum += x.go(calls % 2 == 0 ? 9999 : 0);
+            calls++;
+        }
+        Due.is("TICKS", x.now(1), sum);
+        Due.is("each way takes the most", sum, 501 * (198 + 99 * 136));
     }
 
     private static void withinNoTicks() {

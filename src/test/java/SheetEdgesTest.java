@@ -48,7 +48,9 @@ public final class SheetEdgesTest {
     private static void sawLeastAndGreatest() {
         Due.topic("saw: 0 to 999 at 0 to 9999");
         for (int c : new int[] {0, 1, 998, 999}) {
-            for (int place : new int[] {0, 1, 9998, 9999}) Due.is("saw(" + c + ", " + place + ")", new TwoReels().saw(c, place), 1);
+            for (int place : new int[] {0, 1, 9998, 9999}) {
+                Due.is("saw(" + c + ", " + place + ")", new TwoReels().saw(c, place), 1);
+            }
         }
         TwoReels x = new TwoReels();
         for (int c : new int[] {MIN, -1, 1000, MAX}) {
@@ -256,7 +258,7 @@ public final class SheetEdgesTest {
         Due.topic("SHEETS: nothing at first");
         for (int k = 0; k < 4; k++) {
             TwoReels x = new TwoReels();
-            for (int i : new int[] {MIN, -1, 0, 39, MAX}) Due.is("lay(" + k + ", " + i + ")", x.lay(k, i, 1), -10 - NULL);
+            for (int i : new int[] {MIN, -1, 0, 39, MAX}) Due.is("lay, CELL " + i, x.lay(k, i, 1), -10 - NULL);
             for (int lane = 0; lane < 3; lane++) {
                 x.read(3 - k, lane, 0, 0);
                 Due.is("read as of lane " + lane, x.read(k, lane, 0, 1), 0);
@@ -352,11 +354,13 @@ public final class SheetEdgesTest {
     /** Due is what is read of the CELL then; -20: it is no BYTE. */
     private static void laysTheLowestBits() {
         Due.topic("lay: the lowest bits, with a sign");
-        int[][] due = {{0, 127, 127}, {0, 128, -20}, {0, 255, -20}, {0, 256, 0}, {0, 383, 127}, {0, 384, -20}, {0, -1, -20},
-            {0, -128, -20}, {0, -129, 127}, {0, MIN, 0}, {0, MAX, -20}, {0, 65536 + 9, 9}, {1, 127, 127}, {1, 128, 128},
-            {1, 255, 255}, {1, 256, -20}, {1, 32767, -20}, {1, 32768, -20}, {1, 65535, -20}, {1, 65536, 0},
-            {1, 65536 + 255, 255}, {1, 65536 + 256, -20}, {1, -1, -20}, {1, -65536 + 255, 255}, {1, MIN, 0}, {1, MAX, -20},
-            {1, MIN + 7, 7}, {2, 0, 0}, {2, 255, 255}, {2, 256, -20}, {2, 65536, -20}, {2, 65536 + 255, -20}, {2, -1, -20},
+        int[][] due = {
+            {0, 127, 127}, {0, 128, -20}, {0, 255, -20}, {0, 256, 0}, {0, 383, 127}, {0, 384, -20}, {0, -1, -20},
+            {0, -128, -20}, {0, -129, 127}, {0, MIN, 0}, {0, MAX, -20}, {0, 65536 + 9, 9},
+            {1, 127, 127}, {1, 128, 128}, {1, 255, 255}, {1, 256, -20}, {1, 32767, -20}, {1, 32768, -20},
+            {1, 65535, -20}, {1, 65536, 0}, {1, 65536 + 255, 255}, {1, 65536 + 256, -20}, {1, -1, -20},
+            {1, -65536 + 255, 255}, {1, MIN, 0}, {1, MAX, -20}, {1, MIN + 7, 7},
+            {2, 0, 0}, {2, 255, 255}, {2, 256, -20}, {2, 65536, -20}, {2, 65536 + 255, -20}, {2, -1, -20},
             {2, MIN, -20}, {2, MAX, -20}, {2, 16777216, -20}};
         for (int[] d : due) {
             TwoReels x = new TwoReels();

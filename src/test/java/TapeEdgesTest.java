@@ -37,8 +37,8 @@ public final class TapeEdgesTest {
             Due.is("cut(" + c[0] + ", " + c[1] + ")", x.cut(c[0], c[1]), 0);
             Due.is("length is less", x.rule(0), 200 - c[1] + c[0]);
         }
-        int[][] bad = {{0, 0}, {5, 5}, {200, 200}, {5, 4}, {200, 0}, {-1, 5}, {0, 201}, {200, 201}, {-1, 201}, {MIN, MAX},
-            {MAX, MIN}, {0, MAX}, {0, MIN}, {MIN, 0}, {MAX, MAX}, {MIN, MIN}, {-1, 0}, {201, 202}};
+        int[][] bad = {{0, 0}, {5, 5}, {200, 200}, {5, 4}, {200, 0}, {-1, 5}, {0, 201}, {200, 201}, {-1, 201}, {-1, 0},
+            {201, 202}, {MIN, MAX}, {MAX, MIN}, {0, MAX}, {0, MIN}, {MIN, 0}, {MAX, MAX}, {MIN, MIN}};
         TwoReels x = Due.told("length 200;");
         for (int[] c : bad) Due.is("cut(" + c[0] + ", " + c[1] + ")", x.cut(c[0], c[1]), BAD);
         Due.is("length stays", x.rule(0), 200);
@@ -125,6 +125,7 @@ public final class TapeEdgesTest {
         for (int c = 0; c < 4; c++) x.spoil(5, c / 2, c % 2);
         int[] begins = new int[6];
         for (int b = 0; b < 6; b++) begins[b] = x.block(b, 0);
+        Due.is("FOOLED", x.state(1), 32);
         Due.is("BLOCK 1 is lost", x.cut(begins[1], begins[1] + 3), 1);
         Due.is("BLOCK 0 stays", x.block(0, 0), begins[0]);
         for (int b = 1; b < 5; b++) Due.is("BLOCK " + b, x.block(b, 0), begins[b + 1] - 3);
@@ -135,13 +136,29 @@ public final class TapeEdgesTest {
         Due.is("the last BYTE of 3 is that of 2", x.got(2, 11), 12);
         Due.is("the MARK", x.block(3, 2), 0);
         Due.is("the last one", x.block(4, 2), 1);
+        whatWasWrittenComesWithThem();
+    }
+
+    private static void whatWasWrittenComesWithThem() {
+        for (int lost = 0; lost < 4; lost++) {
+            TwoReels x = Due.told("block 1 2 3;block 14 15 16 17 18 19 20 21 22 23 24 25;mark;block 37;block 48 59;");
+            x.cut(x.block(lost, 0), x.block(lost, 4));
+            Due.is("none is FOOLED behind BLOCK " + lost, x.state(1), 0);
+            Due.is("the last BYTE", x.got(3, 1), 59);
+            x.spoil(3, 1, 1);
+            x.spoil(3, 1, 2);
+            x.spoil(3, 2, 1);
+            x.spoil(3, 2, 2);
+            Due.is("but one that is", x.state(1), 8);
+        }
     }
 
     private static void cutBringsTheHeadNearer() {
         Due.topic("CUT: THE HEAD");
-        int[][] due = {{0, 0, 5, 0}, {0, 1, 5, 0}, {4, 0, 5, 0}, {5, 0, 5, 0}, {6, 0, 5, 1}, {40, 0, 5, 35}, {9, 10, 20, 9},
-            {10, 10, 20, 10}, {11, 10, 20, 10}, {19, 10, 20, 10}, {20, 10, 20, 10}, {21, 10, 20, 11}, {40, 10, 20, 30},
-            {40, 39, 40, 39}, {39, 39, 40, 39}, {38, 39, 40, 38}, {40, 20, 40, 20}, {30, 20, 40, 20}};
+        // Where it was, x, y, where it is then.
+        int[][] due = {{0, 0, 5, 0}, {0, 1, 5, 0}, {4, 0, 5, 0}, {5, 0, 5, 0}, {6, 0, 5, 1}, {40, 0, 5, 35},
+            {9, 10, 20, 9}, {10, 10, 20, 10}, {11, 10, 20, 10}, {19, 10, 20, 10}, {20, 10, 20, 10}, {21, 10, 20, 11},
+            {40, 10, 20, 30}, {40, 39, 40, 39}, {39, 39, 40, 39}, {38, 39, 40, 38}, {40, 20, 40, 20}, {30, 20, 40, 20}};
         for (int[] d : due) {
             TwoReels x = Due.told("length 40;");
             x.go(d[0]);
@@ -229,6 +246,9 @@ public final class TapeEdgesTest {
         TwoReels one = Due.told("length 20;gap 18;dense 1;");
         Due.is("1 alone has room", one.most(0), 1);
         Due.is("one BYTE", one.most(1), 1);
+        TwoReels two = Due.told("length 20;gap 17;dense 1;");
+        Due.is("2 have room", two.most(0), 2);
+        Due.is("two BYTES", two.most(1), 2);
         TwoReels all = Due.told("length 100;gap 0;dense 1;");
         Due.is("99 of all", all.most(0), 99);
         Due.is("99 BYTES", all.most(1), 99);
@@ -319,10 +339,12 @@ public final class TapeEdgesTest {
         streamed(Due.told("gap 0;play 1;hitch 0;"), 99, 1, 9999, 1, 98 * 9999 + 1, 98);
         streamed(Due.told("gap 0;play 1;hitch 999;"), 99, 1, 9999, 1, 98 * 9999 + 1, 98);
         streamed(Due.told("gap 0;play 1;hitch 999;"), 99, 1, 2, 1, 1 + 999 + 98, 1);
-        int[][] bad = {{0, 1, 0, 1, 0}, {-1, 1, 0, 1, 0}, {MIN, 1, 0, 1, 0}, {100, 1, 0, 1, 0}, {MAX, 1, 0, 1, 0},
-            {1, 0, 0, 1, 0}, {1, MIN, 0, 1, 0}, {1, 100, 0, 1, 0}, {1, MAX, 0, 1, 0}, {1, 1, -1, 1, 0}, {1, 1, MIN, 1, 0},
-            {1, 1, 10000, 1, 0}, {1, 1, MAX, 1, 0}, {1, 1, 0, 0, 0}, {1, 1, 0, MIN, 0}, {1, 1, 0, 100, 0},
-            {1, 1, 0, MAX, 0}, {1, 1, 0, 1, -1}, {1, 1, 0, 1, 2}, {1, 1, 0, 1, MIN}, {1, 1, 0, 1, MAX}};
+        int[][] bad = {
+            {0, 1, 0, 1, 0}, {-1, 1, 0, 1, 0}, {MIN, 1, 0, 1, 0}, {100, 1, 0, 1, 0}, {MAX, 1, 0, 1, 0},
+            {1, 0, 0, 1, 0}, {1, MIN, 0, 1, 0}, {1, 100, 0, 1, 0}, {1, MAX, 0, 1, 0},
+            {1, 1, -1, 1, 0}, {1, 1, MIN, 1, 0}, {1, 1, 10000, 1, 0}, {1, 1, MAX, 1, 0},
+            {1, 1, 0, 0, 0}, {1, 1, 0, MIN, 0}, {1, 1, 0, 100, 0}, {1, 1, 0, MAX, 0},
+            {1, 1, 0, 1, -1}, {1, 1, 0, 1, 2}, {1, 1, 0, 1, MIN}, {1, 1, 0, 1, MAX}};
         for (int[] b : bad) Due.is("a number beyond", x.stream(b[0], b[1], b[2], b[3], b[4]), BAD);
     }
 
@@ -357,8 +379,8 @@ public final class TapeEdgesTest {
         Due.is("n of 99", x.buffer(99, 1, 1000, 0), leastBuffer(x, 99, 1, 1000));
         Due.is("TICKS", x.buffer(99, 1, 1000, 1), x.stream(99, 1, 1000, leastBuffer(x, 99, 1, 1000), 0));
         int[][] bad = {{0, 1, 0, 0}, {MIN, 1, 0, 0}, {100, 1, 0, 0}, {MAX, 1, 0, 0}, {1, 0, 0, 0}, {1, MIN, 0, 0},
-            {1, 100, 0, 0}, {1, MAX, 0, 0}, {1, 1, -1, 0}, {1, 1, MIN, 0}, {1, 1, 10000, 0}, {1, 1, MAX, 0}, {1, 1, 0, -1},
-            {1, 1, 0, 2}, {1, 1, 0, MIN}, {1, 1, 0, MAX}};
+            {1, 100, 0, 0}, {1, MAX, 0, 0}, {1, 1, -1, 0}, {1, 1, MIN, 0}, {1, 1, 10000, 0}, {1, 1, MAX, 0},
+            {1, 1, 0, -1}, {1, 1, 0, 2}, {1, 1, 0, MIN}, {1, 1, 0, MAX}};
         for (int[] b : bad) Due.is("a number beyond", x.buffer(b[0], b[1], b[2], b[3]), BAD);
     }
 

@@ -126,7 +126,8 @@ public final class TextEdgesTest {
     private static void lettersAreNoneBehindText() {
         Due.topic("text: LETTERS none then");
         TwoReels x = new TwoReels();
-        for (String text : new String[] {"mark;", "", "   ", "mark", "#", "gap 100;", "gap 1;gap 1;", "length 20;gap 20;mark;"}) {
+        String[] texts = {"mark;", "", "   ", "mark", "#", "gap 100;", "gap 1;gap 1;", "length 20;gap 20;mark;"};
+        for (String text : texts) {
             Due.tell(x, text);
             Due.is("LETTERS behind \"" + text + "\"", x.count(5), 0);
             Due.is("end(0)", x.end(0), 0);
@@ -170,7 +171,7 @@ public final class TextEdgesTest {
         Due.topic("blanks, as many as wanted");
         for (int n = 0; n < 30; n += n < 3 ? 1 : 13) {
             String s = " ".repeat(n);
-            String line = s + "hub" + s + "7" + s + ";" + s + "block" + s + "1 " + s + "2" + s + ";" + s + "mark" + s + ";" + s;
+            String line = String.join(s, "", "hub", "7", ";", "block", "1", " ", "2", ";", "mark", ";", "");
             TwoReels x = new TwoReels();
             Due.is(n + " blanks", Due.tell(x, line), 3);
             Due.is("rule(1)", x.rule(1), 7);
@@ -311,6 +312,10 @@ public final class TextEdgesTest {
             Due.refuses(line + "mark;" + Due.RULES[r] + ";", line.length() + 5, 4);
             Due.refuses(line + Due.RULES[r] + " 99999;", line.length(), 4);
         }
+        StringBuilder all = new StringBuilder();
+        for (int r = 0; r < 9; r++) all.append(Due.RULES[r]).append(Due.RULES_LEAST[r]).append(';');
+        for (int r = 0; r < 9; r++) Due.refuses(all + Due.RULES[r], all.length(), 4);
+        Due.refuses("gap 1;hub 7;thick 1;hub 7;", 20, 4);
         takes("block 1;block 1;mark;mark;", 4);
         TwoReels x = new TwoReels();
         Due.refuses(x, "hub 7;hub 7;", 6, 4);

@@ -13,9 +13,9 @@ public final class WholeRangeTest {
         92681, 92682, 999999, 1000000, 1 << 20, 1 << 30, MAX - 40, MAX - 12, MAX - 1, MAX};
     // Each call with numbers that it takes in the state that States tells; one or two of them are changed.
     private static final String[] CALL = {"end", "rule", "turns", "turns", "shows", "ticks", "go", "now", "within",
-        "within", "block", "blockAt", "type", "write", "mark", "spoil", "dead", "check", "got", "column", "state", "best",
-        "order", "reads", "cut", "holds", "most", "stream", "buffer", "saw", "fits", "keep", "back", "sheet", "lay",
-        "read", "count"};
+        "within", "block", "blockAt", "type", "write", "mark", "spoil", "dead", "check", "got", "column", "state",
+        "best", "order", "reads", "cut", "holds", "most", "stream", "buffer", "saw", "fits", "keep", "back", "sheet",
+        "lay", "read", "count"};
     private static final int[][] TAKEN = {{8}, {1}, {50, 0}, {50, 1}, {3, 0}, {30, 90, 2}, {70}, {1}, {50, 0}, {50, 1},
         {0, 1}, {5}, {65}, {1}, {2}, {0, 1, 2}, {4}, {0}, {0, 1}, {0, 2}, {1}, {1}, {5, 10}, {6}, {50, 90}, {5}, {1},
         {5, 2, 30, 2, 0}, {5, 2, 30, 0}, {3, 30}, {1}, {0}, {1}, {1, 1, 9}, {0, 1, 70}, {0, 0, 0, 1}, {1}};
