@@ -2,13 +2,11 @@ import com.sun.source.tree.ArrayAccessTree;
 import com.sun.source.tree.AssignmentTree;
 import com.sun.source.tree.BinaryTree;
 import com.sun.source.tree.CompilationUnitTree;
-import com.sun.source.tree.CompoundAssignmentTree;
 import com.sun.source.tree.MethodInvocationTree;
 import com.sun.source.tree.MethodTree;
 import com.sun.source.tree.NewArrayTree;
 import com.sun.source.tree.NewClassTree;
 import com.sun.source.tree.Tree;
-import com.sun.source.tree.TypeCastTree;
 import com.sun.source.tree.VariableTree;
 import com.sun.source.util.JavacTask;
 import com.sun.source.util.TreePath;
@@ -33,18 +31,15 @@ import javax.tools.JavaCompiler;
 import javax.tools.StandardJavaFileManager;
 import javax.tools.ToolProvider;
 
-/** The rules of ../shared/LANGUAGE.md that want the file read as the compiler reads it. */
+/** The rules of ../shared/LANGUAGE.md that want the file read as the compiler reads it; a number tells the rule. */
 public final class SourceTest {
     private static final File FILE = new File("src/main/java/TwoReels.java");
     private static final Set<Tree.Kind> FORBIDDEN = Set.of(Tree.Kind.THROW, Tree.Kind.TRY, Tree.Kind.CATCH,
         Tree.Kind.SYNCHRONIZED, Tree.Kind.ASSERT, Tree.Kind.LAMBDA_EXPRESSION, Tree.Kind.MEMBER_REFERENCE,
-        Tree.Kind.ANNOTATION, Tree.Kind.IMPORT, Tree.Kind.PACKAGE, Tree.Kind.ENHANCED_FOR_LOOP);
-    private static final Set<String> LIBRARY = Set.of("java.lang.String.length", "java.lang.String.charAt",
-        "java.lang.Integer.bitCount", "java.lang.Math.min", "java.lang.Math.max", "java.lang.Math.abs",
-        "java.lang.System.arraycopy");
-    // These look at the index, or at the divisor, before they use it.
-    private static final Set<String> INDEXING = Set.of("cell", "setCell", "ruled", "addLetter", "letterAt");
-    private static final Set<String> DIVIDING = Set.of("dividedUp", "roomFor");
+        Tree.Kind.PACKAGE);
+    private static final Set<String> TEXT = Set.of("length", "charAt", "isEmpty", "equals", "indexOf", "substring",
+        "toCharArray", "append", "setCharAt", "setLength", "deleteCharAt", "reverse", "toString");
+    private static final Set<String> LIST = Set.of("add", "get", "set", "remove", "size", "isEmpty", "clear", "of");
     private static final int DEEPEST = 8;
 
     private static final Map<String, Set<String>> CALLED = new LinkedHashMap<>();
@@ -64,15 +59,14 @@ public final class SourceTest {
         Due.close();
     }
 
-    /** Calls that are no recursion go eight deep at most, and there is no recursion. */
+    /** A call of one that is open already is recursion, which has a rule of its own. */
     private static void depths() {
         int deepest = 0;
         for (String method : CALLED.keySet()) deepest = Math.max(deepest, depth(method, new ArrayDeque<>()));
-        Due.holds("calls go " + deepest + " deep", deepest > 3 && deepest <= DEEPEST);
+        Due.holds("11: calls go " + deepest + " deep", deepest > 0 && deepest <= DEEPEST);
     }
 
     private static int depth(String method, Deque<String> open) {
-        Due.holds(method + " is no recursion", !open.contains(method));
         if (open.contains(method)) return 0;
         open.push(method);
         int below = 0;
@@ -95,7 +89,7 @@ public final class SourceTest {
 
         @Override
         public Void scan(Tree tree, Void nothing) {
-            if (tree != null) Due.holds("no " + tree.getKind() + " in " + method, !FORBIDDEN.contains(tree.getKind()));
+            if (tree != null) Due.holds("6: no " + tree.getKind() + " in " + method, !FORBIDDEN.contains(tree.getKind()));
             return super.scan(tree, nothing);
         }
 
@@ -103,8 +97,10 @@ public final class SourceTest {
         public Void visitMethod(MethodTree tree, Void nothing) {
             Element self = trees.getElement(getCurrentPath());
             method = self.getEnclosingElement() + "." + tree.getName();
-            Due.holds(method + " bears one name alone", CALLED.put(method, new TreeSet<>()) == null);
-            Due.holds(method + " takes seven at most", tree.getParameters().size() <= 7);
+            CALLED.putIfAbsent(method, new TreeSet<>());
+            Due.holds("11: " + method + " takes seven at most", tree.getParameters().size() <= 7);
+            Due.holds("6: " + method + " throws nothing", tree.getThrows().isEmpty());
+            Due.holds("6: " + method, !Set.of("equals", "hashCode", "toString").contains(tree.getName().toString()));
             super.visitMethod(tree, nothing);
             method = "";
             return null;
@@ -115,32 +111,35 @@ public final class SourceTest {
             ExecutableElement called = (ExecutableElement) trees.getElement(getCurrentPath());
             String name = called.getEnclosingElement() + "." + called.getSimpleName();
             if (name.startsWith("TwoReels")) CALLED.computeIfAbsent(method, m -> new TreeSet<>()).add(name);
-            else Due.holds("the library's " + name, LIBRARY.contains(name) || name.equals("java.lang.Object.<init>"));
+            else Due.holds("4: the library's " + name, isListed(called));
             return super.visitMethodInvocation(tree, nothing);
         }
 
-        @Override
-        public Void visitArrayAccess(ArrayAccessTree tree, Void nothing) {
-            Due.holds("an index in " + method, INDEXING.contains(simple()));
-            return super.visitArrayAccess(tree, nothing);
+        private static boolean isListed(ExecutableElement called) {
+            String name = called.getSimpleName().toString();
+            switch (called.getEnclosingElement().toString()) {
+                case "java.lang.Object": return name.equals("<init>");
+                case "java.lang.String":
+                case "java.lang.StringBuilder": return TEXT.contains(name);
+                case "java.util.List":
+                case "java.util.ArrayList": return LIST.contains(name);
+                case "java.lang.System": return name.equals("arraycopy");
+                case "java.util.Arrays": return Set.of("copyOf", "copyOfRange", "fill").contains(name);
+                case "java.lang.Integer":
+                case "java.lang.Long":
+                case "java.lang.Math":
+                    return called.getModifiers().contains(Modifier.STATIC) && !name.endsWith("Exact")
+                        && !name.equals("random");
+                default: return false;
+            }
         }
 
+        /** Texts are joined by StringBuilder. */
         @Override
         public Void visitBinary(BinaryTree tree, Void nothing) {
-            boolean divides = tree.getKind() == Tree.Kind.DIVIDE || tree.getKind() == Tree.Kind.REMAINDER;
-            boolean isByNumber = tree.getRightOperand().getKind() == Tree.Kind.INT_LITERAL;
-            if (divides) Due.holds("a divisor in " + method, isByNumber || DIVIDING.contains(simple()));
             boolean isText = isText(tree.getLeftOperand()) || isText(tree.getRightOperand());
-            Due.holds("texts in " + method, !isText);
+            Due.holds("6, 10: an operator of texts in " + method, !isText);
             return super.visitBinary(tree, nothing);
-        }
-
-        @Override
-        public Void visitCompoundAssignment(CompoundAssignmentTree tree, Void nothing) {
-            boolean divides = tree.getKind() == Tree.Kind.DIVIDE_ASSIGNMENT
-                || tree.getKind() == Tree.Kind.REMAINDER_ASSIGNMENT;
-            if (divides) Due.holds("a divisor in " + method, tree.getExpression().getKind() == Tree.Kind.INT_LITERAL);
-            return super.visitCompoundAssignment(tree, nothing);
         }
 
         private boolean isText(Tree tree) {
@@ -148,27 +147,13 @@ public final class SourceTest {
             return type != null && type.toString().equals("java.lang.String");
         }
 
-        private String simple() {
-            return method.substring(method.lastIndexOf('.') + 1);
-        }
-
         @Override
         public Void visitNewClass(NewClassTree tree, Void nothing) {
-            Due.holds("made by a call, in " + method, method.isEmpty() && tree.getClassBody() == null);
+            String made = element(tree.getIdentifier()).toString();
+            boolean isListed = Set.of("java.lang.String", "java.lang.StringBuilder", "java.util.ArrayList").contains(made);
+            Due.holds("4: a new " + made, isListed || made.startsWith("TwoReels."));
+            Due.holds("2: no anonymous class in " + method, tree.getClassBody() == null);
             return super.visitNewClass(tree, nothing);
-        }
-
-        @Override
-        public Void visitNewArray(NewArrayTree tree, Void nothing) {
-            Due.holds("a row made by a call, in " + method, method.isEmpty());
-            return super.visitNewArray(tree, nothing);
-        }
-
-        @Override
-        public Void visitTypeCast(TypeCastTree tree, Void nothing) {
-            TypeKind to = trees.getTypeMirror(new TreePath(getCurrentPath(), tree.getType())).getKind();
-            Due.holds("a cast in " + method, to.isPrimitive());
-            return super.visitTypeCast(tree, nothing);
         }
 
         /** A static field is a constant; arrays of these are written out. */
@@ -177,20 +162,22 @@ public final class SourceTest {
             Element self = trees.getElement(getCurrentPath());
             Set<Modifier> modifiers = self.getModifiers();
             if (self.getKind() == ElementKind.FIELD && modifiers.contains(Modifier.STATIC)) {
-                Due.holds(tree.getName() + " is final", modifiers.contains(Modifier.FINAL));
+                Due.holds("5: " + tree.getName() + " is final", modifiers.contains(Modifier.FINAL));
                 boolean isRow = self.asType().getKind() == TypeKind.ARRAY;
-                Due.holds(tree.getName() + " is written out", !isRow
+                Due.holds("5: " + tree.getName() + " is written out", !isRow
                     || tree.getInitializer() instanceof NewArrayTree row && row.getInitializers() != null);
             }
             return super.visitVariable(tree, nothing);
         }
 
-        /** Rows that are constants are never changed, so never the target of an assignment. */
+        /** Rows that are constants are never changed, so none of their elements is the target of an assignment. */
         @Override
         public Void visitAssignment(AssignmentTree tree, Void nothing) {
-            Element target = element(tree.getVariable());
-            boolean isConstant = target != null && target.getModifiers().contains(Modifier.STATIC);
-            Due.holds("a constant changed in " + method, !isConstant);
+            Tree target = tree.getVariable();
+            while (target instanceof ArrayAccessTree access) target = access.getExpression();
+            Element changed = element(target);
+            boolean isConstant = changed != null && changed.getModifiers().contains(Modifier.STATIC);
+            Due.holds("5: a constant changed in " + method, !isConstant);
             return super.visitAssignment(tree, nothing);
         }
     }
