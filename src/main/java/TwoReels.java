@@ -825,6 +825,9 @@ public final class TwoReels {
 
     /** AN ORDER of some BLOCKS: the fewest TICKS for every rest of them, then the first ORDER that takes these. */
     private static final class Route {
+        // Above what ORDER_MOST ways from one end of the longest tape to the other take at the slowest.
+        private static final int MORE_THAN_ANY = 1 << 30;
+
         // hops: TICKS from a place (the end of a stop; behind all stops THE HEAD) to and through a stop.
         private final int[] hops = new int[(ORDER_MOST + 1) * ORDER_MOST];
         // fewest: TICKS still to come, by the stops that are left (bits) and the stop where one is.
@@ -876,7 +879,7 @@ public final class TwoReels {
         }
 
         private int fewestFrom(int from, int left) {
-            int least = Integer.MAX_VALUE;
+            int least = MORE_THAN_ANY;
             for (int to = 0; to < count; to++) {
                 if ((left >> to & 1) == 1) least = Math.min(least, ticksBy(from, to, left));
             }

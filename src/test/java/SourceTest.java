@@ -2,6 +2,7 @@ import com.sun.source.tree.ArrayAccessTree;
 import com.sun.source.tree.AssignmentTree;
 import com.sun.source.tree.BinaryTree;
 import com.sun.source.tree.CompilationUnitTree;
+import com.sun.source.tree.MemberSelectTree;
 import com.sun.source.tree.MethodInvocationTree;
 import com.sun.source.tree.MethodTree;
 import com.sun.source.tree.NewArrayTree;
@@ -40,6 +41,10 @@ public final class SourceTest {
     private static final Set<String> TEXT = Set.of("length", "charAt", "isEmpty", "equals", "indexOf", "substring",
         "toCharArray", "append", "setCharAt", "setLength", "deleteCharAt", "reverse", "toString");
     private static final Set<String> LIST = Set.of("add", "get", "set", "remove", "size", "isEmpty", "clear", "of");
+    private static final Set<String> PLAIN = Set.of("int", "long", "short", "byte", "char", "boolean", "double",
+        "float");
+    private static final Set<String> LISTED = Set.of("java\\.lang\\.(String|StringBuilder|Integer)",
+        "java\\.util\\.(ArrayList|List)<(java\\.lang\\.Integer|TwoReels\\..+)>");
     private static final int DEEPEST = 8;
 
     private static final Map<String, Set<String>> CALLED = new LinkedHashMap<>();
@@ -89,7 +94,8 @@ public final class SourceTest {
 
         @Override
         public Void scan(Tree tree, Void nothing) {
-            if (tree != null) Due.holds("6: no " + tree.getKind() + " in " + method, !FORBIDDEN.contains(tree.getKind()));
+            if (tree == null) return null;
+            Due.holds("6: no " + tree.getKind() + " in " + method, !FORBIDDEN.contains(tree.getKind()));
             return super.scan(tree, nothing);
         }
 
@@ -134,6 +140,18 @@ public final class SourceTest {
             }
         }
 
+        /** The library's constants are not listed; how long an array is may be asked. */
+        @Override
+        public Void visitMemberSelect(MemberSelectTree tree, Void nothing) {
+            Element self = trees.getElement(getCurrentPath());
+            if (self != null && self.getKind() == ElementKind.FIELD) {
+                TypeMirror owner = trees.getTypeMirror(new TreePath(getCurrentPath(), tree.getExpression()));
+                boolean isOwn = self.getEnclosingElement().toString().startsWith("TwoReels");
+                Due.holds("4: the library's " + tree, isOwn || owner.getKind() == TypeKind.ARRAY);
+            }
+            return super.visitMemberSelect(tree, nothing);
+        }
+
         /** Texts are joined by StringBuilder. */
         @Override
         public Void visitBinary(BinaryTree tree, Void nothing) {
@@ -150,8 +168,8 @@ public final class SourceTest {
         @Override
         public Void visitNewClass(NewClassTree tree, Void nothing) {
             String made = element(tree.getIdentifier()).toString();
-            boolean isListed = Set.of("java.lang.String", "java.lang.StringBuilder", "java.util.ArrayList").contains(made);
-            Due.holds("4: a new " + made, isListed || made.startsWith("TwoReels."));
+            Set<String> listed = Set.of("java.lang.String", "java.lang.StringBuilder", "java.util.ArrayList");
+            Due.holds("4: a new " + made, listed.contains(made) || made.startsWith("TwoReels."));
             Due.holds("2: no anonymous class in " + method, tree.getClassBody() == null);
             return super.visitNewClass(tree, nothing);
         }
@@ -161,6 +179,7 @@ public final class SourceTest {
         public Void visitVariable(VariableTree tree, Void nothing) {
             Element self = trees.getElement(getCurrentPath());
             Set<Modifier> modifiers = self.getModifiers();
+            Due.holds("3: " + tree.getName() + " is " + self.asType(), isKept(self.asType()));
             if (self.getKind() == ElementKind.FIELD && modifiers.contains(Modifier.STATIC)) {
                 Due.holds("5: " + tree.getName() + " is final", modifiers.contains(Modifier.FINAL));
                 boolean isRow = self.asType().getKind() == TypeKind.ARRAY;
@@ -168,6 +187,15 @@ public final class SourceTest {
                     || tree.getInitializer() instanceof NewArrayTree row && row.getInitializers() != null);
             }
             return super.visitVariable(tree, nothing);
+        }
+
+        private static boolean isKept(TypeMirror type) {
+            String name = type.toString();
+            String part = name.replaceFirst("(\\[])+$", "");
+            int dimensions = (name.length() - part.length()) / 2;
+            if (PLAIN.contains(part)) return dimensions <= 2;
+            boolean isOwn = part.startsWith("TwoReels.");
+            return isOwn ? dimensions <= 1 : dimensions == 0 && LISTED.stream().anyMatch(part::matches);
         }
 
         /** Rows that are constants are never changed, so none of their elements is the target of an assignment. */
